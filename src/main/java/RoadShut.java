@@ -1589,7 +1589,7 @@ public final class RoadShut {
         private int sumUpTo(int level) {
             int sum = 0;
             for (int v = 0; v < VALLEYS_MOST; v++) {
-                sum += Math.min(asked[v], level);
+                sum += asked[v] < level ? asked[v] : level;
             }
             return sum;
         }

@@ -1,0 +1,153 @@
+import java.io.IOException;
+import java.lang.reflect.Field;
+import java.lang.reflect.Method;
+import java.lang.reflect.Modifier;
+import java.nio.file.Files;
+import java.nio.file.Path;
+import java.util.ArrayList;
+import java.util.Arrays;
+import java.util.List;
+import java.util.Set;
+import java.util.TreeSet;
+import java.util.regex.Matcher;
+import java.util.regex.Pattern;
+
+/** The face of the document, and those rules of LANGUAGE.md that can be seen from outside or in the text. */
+public final class LanguageTest {
+    private static final Check CHECK = new Check();
+
+    public static void main(String[] args) throws IOException {
+        String source = Files.readString(Path.of("src/main/java/RoadShut.java"));
+        String code = withoutTextsAndComments(source);
+        face();
+        membersInside();
+        words(code);
+        lengths(code);
+        CHECK.finish();
+    }
+
+    private static Path document() {
+        String shared = System.getenv("SHARED");
+        return Path.of(shared == null ? "../shared" : shared, "DOC.md");
+    }
+
+    private static void face() throws IOException {
+        String text = Files.readString(document());
+        Matcher block = Pattern.compile("```java\n(.*?)```", Pattern.DOTALL).matcher(text);
+        CHECK.holds("the document has its face", block.find());
+        Set<String> due = new TreeSet<>();
+        Matcher method = Pattern.compile("public (int|long) (\\w+)\\(([^)]*)\\);").matcher(block.group(1));
+        while (method.find()) {
+            StringBuilder types = new StringBuilder();
+            for (String parameter : method.group(3).split(",")) {
+                types.append(parameter.trim().split(" ")[0]).append(' ');
+            }
+            due.add(method.group(1) + " " + method.group(2) + " " + types.toString().trim());
+        }
+        Set<String> got = new TreeSet<>();
+        for (Method m : RoadShut.class.getDeclaredMethods()) {
+            if (!Modifier.isPrivate(m.getModifiers())) {
+                CHECK.holds(m + " is public and no static", Modifier.isPublic(m.getModifiers()) && !Modifier.isStatic(m.getModifiers()));
+                StringBuilder types = new StringBuilder();
+                for (Class<?> type : m.getParameterTypes()) {
+                    types.append(type.getSimpleName()).append(' ');
+                }
+                got.add(m.getReturnType().getSimpleName() + " " + m.getName() + " " + types.toString().trim());
+            }
+        }
+        CHECK.due("methods of the face", due.size(), 50);
+        CHECK.holds("the face is " + due + ", not " + got, due.equals(got));
+        CHECK.holds("public and final", Modifier.isPublic(RoadShut.class.getModifiers()) && Modifier.isFinal(RoadShut.class.getModifiers()));
+        CHECK.due("constructors", RoadShut.class.getDeclaredConstructors().length, 1);
+        for (Field field : RoadShut.class.getDeclaredFields()) {
+            CHECK.holds(field + " is private", Modifier.isPrivate(field.getModifiers()) || field.getName().equals("NONE"));
+        }
+    }
+
+    private static void membersInside() {
+        Set<String> faceNames = new TreeSet<>();
+        for (Method m : RoadShut.class.getDeclaredMethods()) {
+            if (Modifier.isPublic(m.getModifiers())) {
+                faceNames.add(m.getName());
+            }
+        }
+        List<Class<?>> classes = new ArrayList<>(Arrays.asList(RoadShut.class.getDeclaredClasses()));
+        CHECK.holds("some twelve classes", classes.size() + 1 <= 12);
+        for (Class<?> inside : classes) {
+            CHECK.holds(inside + " is static", Modifier.isStatic(inside.getModifiers()));
+            CHECK.holds(inside + " is not public", !Modifier.isPublic(inside.getModifiers()));
+            CHECK.due("classes in " + inside, inside.getDeclaredClasses().length, 0);
+        }
+        classes.add(RoadShut.class);
+        for (Class<?> each : classes) {
+            int fields = 0;
+            for (Field field : each.getDeclaredFields()) {
+                boolean isStatic = Modifier.isStatic(field.getModifiers());
+                fields += isStatic ? 0 : 1;
+                CHECK.holds(field + " is final, if static", !isStatic || Modifier.isFinal(field.getModifiers()));
+            }
+            CHECK.holds(each + " has some twenty fields, not " + fields, fields <= 21);
+            for (Method m : each.getDeclaredMethods()) {
+                CHECK.holds(m + " takes seven at most", m.getParameterCount() <= 7);
+                boolean clash = faceNames.contains(m.getName()) && !(each == RoadShut.class && Modifier.isPublic(m.getModifiers()));
+                CHECK.holds(m + " bears no name of the face", !clash);
+            }
+        }
+    }
+
+    private static void words(String code) {
+        String[] banned = {"throw", "throws", "try", "catch", "finally", "synchronized", "assert", "instanceof", "var", "Random", "Thread",
+            "System.out", "System.nanoTime", "System.currentTimeMillis", "protected", "Object", "HashMap", "Exact", "double", "float"};
+        for (String word : banned) {
+            boolean found = Pattern.compile("\\b" + Pattern.quote(word) + "\\b").matcher(code).find();
+            CHECK.holds("no word " + word, !found);
+        }
+        CHECK.holds("no lambda, no arrow", !code.contains("->"));
+        CHECK.holds("no method reference", !code.contains("::"));
+        CHECK.holds("no name that ends in Exact", !Pattern.compile("\\w+Exact\\b").matcher(code).find());
+        CHECK.holds("no package line", !Pattern.compile("(?m)^package\\b").matcher(code).find());
+        CHECK.holds("no text joined by +", !Pattern.compile("\"\\s*\\+|\\+\\s*\"").matcher(code).find());
+        Matcher imports = Pattern.compile("(?m)^import (.*);").matcher(code);
+        while (imports.find()) {
+            CHECK.holds("import " + imports.group(1), imports.group(1).equals("java.util.Arrays"));
+        }
+        Matcher calls = Pattern.compile("\\b(Math|Arrays|Integer|Long|System|String)\\.(\\w+)").matcher(code);
+        Set<String> allowed = Set.of("Math.min", "Math.max", "Arrays.fill", "Integer.bitCount", "Long.MAX_VALUE", "System.arraycopy");
+        while (calls.find()) {
+            CHECK.holds("library " + calls.group(), allowed.contains(calls.group()));
+        }
+        for (int i = 0; i < code.length(); i++) {
+            CHECK.holds("plain signs", code.charAt(i) < 128);
+        }
+    }
+
+    private static void lengths(String code) {
+        String[] lines = code.split("\n");
+        int begin = -1;
+        String head = "";
+        int longest = 0;
+        for (int i = 0; i < lines.length; i++) {
+            String line = lines[i];
+            boolean method = line.matches(" {4}(public|private)[^=;]*\\) \\{") || line.matches(" {8}\\w[^=;]*\\) \\{");
+            boolean control = line.trim().matches("(if|for|while|switch|else|\\}).*");
+            if (method && !control) {
+                begin = i;
+                head = line;
+            }
+            boolean closes = line.equals("    }") || line.equals("        }");
+            if (begin >= 0 && closes && line.indexOf('}') == head.indexOf(head.trim())) {
+                longest = Math.max(longest, i - begin + 1);
+                CHECK.holds(head.trim() + " is too long: " + (i - begin + 1), i - begin + 1 <= 60);
+                begin = -1;
+            }
+        }
+        CHECK.holds("methods were seen", longest > 10);
+    }
+
+    private static String withoutTextsAndComments(String source) {
+        String answer = source.replaceAll("(?s)/\\*.*?\\*/", "");
+        answer = answer.replaceAll("//[^\n]*", "");
+        answer = answer.replaceAll("\"[^\"\n]*\"", "\"\"");
+        return answer;
+    }
+}
