@@ -83,6 +83,17 @@ public final class PromiseTest {
         due("shut at once", always.shuts(0, 1), ALL);
         due("never", always.shuts(0, 0), 0);
         due("day 60", always.shuts(0, 60), 0);
+        RoadShut atLast = Check.land("winter days 60 first 0 snow 0 clear 1;valley shut 1 room 0 wants;valley shut 2 room 0 wants;");
+        long sum = 0;
+        long sumOfTwo = 0;
+        for (int day = 0; day <= 60; day++) {
+            sum += atLast.shuts(0, day);
+            sumOfTwo += atLast.both(0, day, 1, 60);
+        }
+        due("sixty DAYS are all", sum, ALL);
+        CHECK.holds("of two too, but for what is cut otherwise", Math.abs(sumOfTwo - atLast.shuts(1, 60)) < 1000);
+        CHECK.holds("some on the last", atLast.shuts(0, 60) > 0 && atLast.shuts(0, 60) < atLast.shuts(0, 59));
+        due("day 61", atLast.shuts(0, 61), -2);
     }
 
     private static void promise7by() {
@@ -182,6 +193,14 @@ public final class PromiseTest {
             shutByFour += laid.set(5, bits);
         }
         due("what is left over", laid.set(5, 0), ALL - shutByFour);
+        for (int chance = 1; chance < 100; chance += 7) {
+            RoadShut fine = Check.land("winter days 14 first " + chance + " snow 1 clear 0;valley shut 3 room 1 wants;"
+                + "valley shut 1 room 1 wants;");
+            for (int day = 1; day <= 14; day++) {
+                due("no PART is lost", fine.set(day, 0) + fine.set(day, 1) + fine.set(day, 2) + fine.set(day, 3), ALL);
+                due("nor by how many", fine.together(day, 0) + fine.together(day, 1) + fine.together(day, 2), ALL);
+            }
+        }
     }
 
     private static void promise11when() {
@@ -358,6 +377,9 @@ public final class PromiseTest {
         due("last(1, 0)", x.last(1, 0), -1);
         due("signs(0, 0): three sacks may be laid, lorries bring four", x.signs(0, 0), 5000 - 8000);
         due("signs(1, 0)", x.signs(1, 0), 0);
+        RoadShut one = Check.land(SURE_SHUT + "lorry many 9 carry 1 cost 4;");
+        due("each sack has its lorry", one.signs(0, 0), 0);
+        due("and its fare", one.late(0, 0), 3 * 5000);
         for (int far : FAR) {
             due("late far valley " + far, x.late(far, 0), -2);
             due("late far thing " + far, x.late(0, far), -2);
@@ -433,6 +455,12 @@ public final class PromiseTest {
         due("fork of 2", two.fork(0, 1, 0, 2), 7000);
         due("middle", two.middle(0, 1, 0), 1);
         due("shares: each by itself costs 3", two.shares(0, 1, 0), 6000 - 6250);
+        RoadShut most = Check.land("winter days 60 first 100 snow 0 clear 0;thing price 99 harm 999 back 0;valley shut 100 room 9 wants 9;"
+            + "valley shut 100 room 9 wants 9;mule 99;");
+        due("the most that two want", most.fork(0, 1, 0, 0), 1000L * 999 * 1062);
+        due("more than can be laid", most.fork(0, 1, 0, 999), 1000L * (99 * 999 + 99 * 999 + 999 * 63));
+        due("so all that can", most.middle(0, 1, 0), 999);
+        due("against 531 each", most.shares(0, 1, 0), 1000L * (99 * 1062) - 1000L * (99 * 999 + 99 * 999 + 999 * 63));
         // a mule that costs more than harm: nothing is laid there, though the far end would be as good
         RoadShut dear = Check.land("winter days 2 first 100 snow 0 clear 0;thing price 0 harm 1 back 0;valley shut 100 room 9 wants 2;"
             + "valley shut 100 room 9 wants 2;mule 2;");
@@ -471,6 +499,9 @@ public final class PromiseTest {
         due("a whole load is above it", above.edge(0), 3);
         due("seven lack: two loads, one left over", above.flown(0, 0, 0), 1000 * (29 + 29 + 10));
         due("no harm, no plane", above.edge(1), -1);
+        RoadShut small = Check.land(start + "plane carry 1 cost 9;");
+        due("a plane for one sack", small.edge(0), 1);
+        due("seven planes", small.flown(0, 0, 0), 63000);
         RoadShut free = Check.land(start + "plane carry 50 cost 0;");
         due("a free plane flies for one", free.edge(0), 1);
         due("and all is flown", free.flown(0, 0, 0), 0);
@@ -594,6 +625,14 @@ public final class PromiseTest {
         due("burnt 101", x.burnt(0, 0, 1, 101), -2);
         due("spread 101", x.spread(0, 0, 1, 101), -2);
         due("bear 101", x.bear(0, 0, 101), -2);
+        for (int wants = 0; wants <= 5; wants++) {
+            RoadShut sure = Check.land("winter days 2 first 100 snow 0 clear 0;thing price 1 harm 10 back 0;valley shut 100 room 9 wants "
+                + wants + ";");
+            due("what is wanted for sure is best", sure.bear(0, 0, 0), wants);
+            due("and is so by one store", sure.best(0, 0), wants);
+            // both stand by 0.81, one by 0.09 each, none by 0.01: the half is all that either then has
+            due("two stores hold it, each by 9 in 10", sure.spread(0, 0, 2 * wants, 10), 1000 * 2 * wants + 100 * wants);
+        }
         due("burnt 1000 sacks", x.burnt(0, 0, 1000, 1), -2);
         due("spread 1000 sacks", x.spread(0, 0, 1000, 1), -2);
         for (int far : FAR) {

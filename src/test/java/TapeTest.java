@@ -144,6 +144,12 @@ public final class TapeTest {
         faulty("  \n;", 1, 3);
         faulty("Winter", 1, 0);
         faulty("winters days", 1, 0);
+        faulty("winterz days", 1, 0);
+        faulty("winter{days", 1, 6);
+        faulty("winter`days", 1, 6);
+        faulty("minter days", 1, 0);
+        faulty("winter days 3/", 1, 13);
+        faulty("winter days 3:", 1, 13);
         faulty("winter", 1, 6);
         faulty("winter \n", 1, 8);
         faulty("winter days 3 first 50 snow 60 clear 40", 1, 39);
