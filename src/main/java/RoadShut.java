@@ -34,8 +34,7 @@ public final class RoadShut {
 
     private final byte[] tape = new byte[TAPE_MOST];
     private final Reader reader = new Reader();
-    private final Roads roads = new Roads();
-    private final Stores stores = new Stores(roads);
+    private final Stores stores = new Stores();
     private final Planner planner = new Planner();
     private final Sharing sharing = new Sharing();
     private final Dice dice = new Dice();
@@ -97,18 +96,18 @@ public final class RoadShut {
         if (!land.hasValley(valley) || !land.hasDayOrNever(day)) {
             return NO_SUCH;
         }
-        roads.followOne(land, valley);
-        return roads.partsOn(day);
+        stores.roads.followOne(land, valley);
+        return stores.roads.partsOn(day);
     }
 
     public long by(int valley, int day) {
         if (!land.hasValley(valley) || !land.hasDay(day)) {
             return NO_SUCH;
         }
-        roads.followOne(land, valley);
+        stores.roads.followOne(land, valley);
         long parts = 0;
         for (int d = 1; d <= day; d++) {
-            parts += roads.partsOn(d);
+            parts += stores.roads.partsOn(d);
         }
         return parts;
     }
@@ -117,19 +116,19 @@ public final class RoadShut {
         if (!land.hasTwo(one, other) || !land.hasDayOrNever(day) || !land.hasDayOrNever(otherDay)) {
             return NO_SUCH;
         }
-        roads.followTwo(land, one, other);
-        return roads.partsOnTwo(day, otherDay);
+        stores.roads.followTwo(land, one, other);
+        return stores.roads.partsOnTwo(day, otherDay);
     }
 
     public long together(int day, int many) {
         if (!land.hasDay(day) || many < 0 || many > land.valleys) {
             return NO_SUCH;
         }
-        roads.followAll(land, day);
+        stores.roads.followAll(land, day);
         long parts = 0;
         for (int way = 0; way < 1 << land.valleys; way++) {
             if (Integer.bitCount(way) == many) {
-                parts += roads.partsOfWay(way);
+                parts += stores.roads.partsOfWay(way);
             }
         }
         return parts;
@@ -139,18 +138,18 @@ public final class RoadShut {
         if (!land.hasDay(day) || !land.hasBits(valleys)) {
             return NO_SUCH;
         }
-        roads.followAll(land, day);
-        return roads.partsOfWay(valleys);
+        stores.roads.followAll(land, day);
+        return stores.roads.partsOfWay(valleys);
     }
 
     public int when(int valley, int thousandths) {
         if (!land.hasValley(valley) || thousandths < 1 || thousandths > 1000) {
             return NO_SUCH;
         }
-        roads.followOne(land, valley);
+        stores.roads.followOne(land, valley);
         long parts = 0;
         for (int d = 1; d <= land.days; d++) {
-            parts += roads.partsOn(d);
+            parts += stores.roads.partsOn(d);
             if (parts >= thousandths * THOUSANDTH) {
                 return d;
             }
@@ -358,11 +357,11 @@ public final class RoadShut {
         if (land.pathBetween(valley, from) == 0) {
             return 0;
         }
-        roads.followTwo(land, valley, from);
+        stores.roads.followTwo(land, valley, from);
         long days = 0;
         for (int day = 1; day <= land.days; day++) {
             for (int fromDay = 0; fromDay <= land.days; fromDay++) {
-                days += roads.partsOnTwo(day, fromDay) * land.fedDays(valley, from, day, fromDay);
+                days += stores.roads.partsOnTwo(day, fromDay) * land.fedDays(valley, from, day, fromDay);
             }
         }
         return (int) (days / (ALL_PARTS / 100));
@@ -1232,16 +1231,12 @@ public final class RoadShut {
         private static final int COLUMN = SACKS_MOST + 1;
         private static final int WANTED_MOST = 2 * 9 * DAYS_MOST;
 
-        private final Roads roads;
+        final Roads roads = new Roads();
         private final long[] parts = new long[WANTED_MOST + 1];
         private int wantedMost;
         /** Whole costs, for each THING a column by sacks; with but one THING in hand it is the first column. */
         private final long[] wholes = new long[THINGS_MOST * COLUMN];
         private final int[] packing = new int[THINGS_MOST];
-
-        Stores(Roads roads) {
-            this.roads = roads;
-        }
 
         long whole(int column, int sacks) {
             boolean inside = column >= 0 && column < THINGS_MOST && sacks >= 0 && sacks < COLUMN;
