@@ -28,16 +28,19 @@ final class Oracle {
     int mule;
     String text;
     int lines;
+    /** Then every number is one of its bounds. */
+    private boolean atBounds;
 
     private final Map<String, Map<List<Integer>, Long>> kept = new HashMap<>();
 
     static Oracle drawn(Random random) {
         Oracle land = new Oracle();
         StringBuilder text = new StringBuilder();
-        land.days = random.nextInt(4) == 0 ? 1 + random.nextInt(60) : 1 + random.nextInt(9);
-        land.first = percent(random);
-        land.snow = percent(random);
-        land.clear = percent(random);
+        land.atBounds = random.nextInt(5) == 0;
+        land.days = land.drawn(random, 1, 60, random.nextInt(4) == 0 ? 60 : 9);
+        land.first = land.percent(random);
+        land.snow = land.percent(random);
+        land.clear = land.percent(random);
         text.append("winter days ").append(land.days).append(" first ").append(land.first)
             .append("\nsnow ").append(land.snow).append(" clear ").append(land.clear).append(" ;");
         land.lines = 1;
@@ -63,8 +66,19 @@ final class Oracle {
         return land;
     }
 
-    private static int percent(Random random) {
+    /** From least up to what is usual, or one of the bounds. */
+    private int drawn(Random random, int least, int most, int usual) {
+        if (atBounds) {
+            return random.nextInt(3) == 0 ? least : most;
+        }
+        return least + random.nextInt(usual - least + 1);
+    }
+
+    private int percent(Random random) {
         int[] edges = {0, 100, 50, 1, 99};
+        if (atBounds) {
+            return edges[random.nextInt(5)];
+        }
         return random.nextInt(3) == 0 ? edges[random.nextInt(edges.length)] : random.nextInt(101);
     }
 
@@ -72,30 +86,31 @@ final class Oracle {
         lines++;
         if (kind.equals("thing")) {
             boolean cheap = random.nextBoolean();
-            int[] thing = {random.nextInt(cheap ? 5 : 100), random.nextInt(cheap ? 12 : 1000), random.nextInt(cheap ? 4 : 100)};
+            int[] thing = {drawn(random, 0, 99, cheap ? 4 : 99), drawn(random, 0, 999, cheap ? 11 : 999),
+                drawn(random, 0, 99, cheap ? 3 : 99)};
             things.add(thing);
             text.append("thing price ").append(thing[0]).append(" harm ").append(thing[1]).append(" back ").append(thing[2]);
         } else if (kind.equals("valley")) {
             int[] valley = new int[5];
             valley[0] = percent(random);
-            valley[1] = random.nextInt(3) == 0 ? random.nextInt(1000) : random.nextInt(40);
+            valley[1] = drawn(random, 0, 999, random.nextInt(3) == 0 ? 999 : 39);
             text.append(" valley shut ").append(valley[0]).append(" room ").append(valley[1]).append(" wants");
             for (int i = 0; i < things.size(); i++) {
-                valley[2 + i] = random.nextInt(10);
+                valley[2 + i] = drawn(random, 0, 9, 9);
                 text.append(' ').append(valley[2 + i]);
             }
             valleys.add(valley);
         } else if (kind.equals("lorry")) {
-            many = 1 + random.nextInt(9);
-            carry = 1 + random.nextInt(random.nextBoolean() ? 5 : 50);
-            cost = random.nextInt(random.nextBoolean() ? 4 : 1000);
+            many = drawn(random, 1, 9, 9);
+            carry = drawn(random, 1, 50, random.nextBoolean() ? 5 : 50);
+            cost = drawn(random, 0, 999, random.nextBoolean() ? 3 : 999);
             text.append("lorry many ").append(many).append(" carry ").append(carry).append(" cost ").append(cost);
         } else if (kind.equals("plane")) {
-            planeCarry = 1 + random.nextInt(50);
-            planeCost = random.nextInt(random.nextBoolean() ? 100 : 10000);
+            planeCarry = drawn(random, 1, 50, 50);
+            planeCost = drawn(random, 0, 9999, random.nextBoolean() ? 99 : 9999);
             text.append("plane carry ").append(planeCarry).append(" cost ").append(planeCost);
         } else {
-            mule = random.nextInt(random.nextBoolean() ? 4 : 100);
+            mule = drawn(random, 0, 99, random.nextBoolean() ? 3 : 99);
             text.append("mule ").append(mule);
         }
         text.append(";\n");
@@ -106,7 +121,7 @@ final class Oracle {
             int one = random.nextInt(valleys.size());
             int other = random.nextInt(valleys.size());
             if (one != other && path(one, other) == 0) {
-                int fedFor = 1 + random.nextInt(random.nextBoolean() ? 4 : 30);
+                int fedFor = drawn(random, 1, 30, random.nextBoolean() ? 4 : 30);
                 paths.put(Math.min(one, other) * 6 + Math.max(one, other), fedFor);
                 text.append("path ").append(one).append(' ').append(other).append(" days ").append(fedFor).append(';');
                 lines++;

@@ -49,8 +49,22 @@ public final class OracleTest {
         return random.nextInt(land.things.size());
     }
 
+    /** Often one of the bounds, or next to it. */
+    private static int within(int least, int most) {
+        switch (random.nextInt(8)) {
+            case 0:
+                return least;
+            case 1:
+                return most;
+            case 2:
+                return Math.max(least, most - 1);
+            default:
+                return least + random.nextInt(most - least + 1);
+        }
+    }
+
     private static int sacksDrawn() {
-        return random.nextInt(4) == 0 ? random.nextInt(1000) : random.nextInt(60);
+        return random.nextInt(2) == 0 ? within(0, 999) : random.nextInt(60);
     }
 
     private static void due(String call, long got, long want) {
@@ -58,7 +72,7 @@ public final class OracleTest {
     }
 
     private static void roadsTogether() {
-        int day = 1 + random.nextInt(land.days);
+        int day = within(1, land.days);
         for (int many = 0; many <= land.valleys.size(); many++) {
             due("together(" + day + ", " + many + ")", x.together(day, many), land.together(day, many));
         }
@@ -75,9 +89,9 @@ public final class OracleTest {
             sum += x.shuts(valley, day);
         }
         due("all of shuts(" + valley + ")", sum, Oracle.ALL);
-        int day = 1 + random.nextInt(land.days);
+        int day = within(1, land.days);
         due("by(" + valley + ", " + day + ")", x.by(valley, day), land.by(valley, day));
-        int thousandths = 1 + random.nextInt(1000);
+        int thousandths = within(1, 1000);
         due("when(" + valley + ", " + thousandths + ")", x.when(valley, thousandths), land.when(valley, thousandths));
     }
 
@@ -86,7 +100,7 @@ public final class OracleTest {
         int thing = thing();
         int sacks = sacksDrawn();
         String of = "(" + valley + ", " + thing + ", " + sacks + ")";
-        int day = random.nextInt(land.days + 1);
+        int day = within(0, land.days);
         due("wants day " + day + of, x.wants(valley, thing, day), land.wants(valley, thing, day));
         due("cost" + of, x.cost(valley, thing, sacks), land.cost(valley, thing, sacks));
         Map<Integer, Long> parts = land.wanting(valley, thing);
@@ -96,7 +110,7 @@ public final class OracleTest {
         }
         due("best" + of, x.best(valley, thing), Oracle.least(wholes));
         due("sure" + of, x.sure(valley, thing, sacks), land.sure(valley, thing, sacks));
-        int n = random.nextInt(1001);
+        int n = within(0, 1000);
         due("need " + n + of, x.need(valley, thing, n), land.need(valley, thing, n));
         due("need 0" + of, x.need(valley, thing, 0), land.need(valley, thing, 0));
         BigInteger[] flown = land.wholes(parts, thing, 0, true);
@@ -122,6 +136,12 @@ public final class OracleTest {
             }
         }
         due("all of both", land.days < 12 ? sum : Oracle.ALL, Oracle.ALL);
+        for (int i = 0; i < 60 && land.days >= 12; i++) {
+            int day = within(0, land.days);
+            int otherDay = within(0, land.days);
+            String of = "(" + one + ", " + day + ", " + other + ", " + otherDay + ")";
+            due("both" + of, x.both(one, day, other, otherDay), land.both(one, day, other, otherDay));
+        }
         due("fed", x.fed(one, other), land.fed(one, other));
         if (land.things.size() == 0) {
             return;
@@ -159,8 +179,8 @@ public final class OracleTest {
         due("last(" + valley + ", " + thing + ")", x.last(valley, thing), mornings.last());
         due("signs(" + valley + ", " + thing + ")", x.signs(valley, thing), land.signs(valley, thing, late));
         for (int i = 0; i < 25; i++) {
-            int day = 1 + random.nextInt(land.days);
-            int sacks = i == 0 ? 600 : i < 4 ? random.nextInt(601) : random.nextInt(50);
+            int day = within(1, land.days);
+            int sacks = i < 12 ? within(0, 600) : random.nextInt(50);
             int sky = random.nextInt(2);
             due("today(" + valley + ", " + thing + ", " + day + ", " + sky + ", " + sacks + ")",
                 x.today(valley, thing, day, sky == 1, sacks), mornings.sent[day][sky][sacks]);
@@ -172,7 +192,7 @@ public final class OracleTest {
         long[] numbers = new long[asked.length];
         int all = 0;
         for (int v = 0; v < asked.length; v++) {
-            asked[v] = random.nextInt(4) == 0 ? 0 : random.nextInt(random.nextBoolean() ? 1000 : 20);
+            asked[v] = random.nextInt(4) == 0 ? 0 : random.nextBoolean() ? within(0, 999) : random.nextInt(20);
             numbers[v] = asked[v];
             all += asked[v];
         }
@@ -180,7 +200,7 @@ public final class OracleTest {
         int valley = valley();
         int thing = thing();
         int rule = random.nextInt(2);
-        int sacks = random.nextInt(6) == 0 ? random.nextInt(100000) : random.nextInt(all + 5);
+        int sacks = random.nextInt(4) == 0 ? within(0, 99999) : random.nextInt(all + 5);
         String of = "(" + java.util.Arrays.toString(asked) + ", " + rule + ", " + sacks + ", " + valley + ", " + thing + ")";
         due("given" + of, x.given(1, rule, sacks, valley), Oracle.given(asked, rule, sacks, valley));
         long[] want = land.asks(asked, rule, sacks, valley, thing);
@@ -191,7 +211,7 @@ public final class OracleTest {
     private static void fires() {
         int valley = valley();
         int thing = thing();
-        int n = random.nextInt(4) == 0 ? 100 * random.nextInt(2) : random.nextInt(101);
+        int n = within(0, 100);
         for (int i = 0; i < 4; i++) {
             int sacks = sacksDrawn();
             String of = "(" + valley + ", " + thing + ", " + sacks + ", " + n + ")";
@@ -211,7 +231,7 @@ public final class OracleTest {
     }
 
     private static void years() {
-        int seed = random.nextInt(4) == 0 ? 2000000000 : random.nextInt(2000000000);
+        int seed = within(0, 2000000000);
         int[] year = land.year(seed);
         int shut = 0;
         for (int day : year) {
@@ -231,7 +251,7 @@ public final class OracleTest {
     }
 
     private static void manyYears(int seed, int valley, int thing, int sacks) {
-        int n = random.nextInt(5) == 0 ? 100 : 1 + random.nextInt(20);
+        int n = random.nextBoolean() ? within(1, 100) : 1 + random.nextInt(20);
         int[] want = new int[4];
         for (int i = 0; i < n; i++) {
             int day = land.year((long) seed + i)[valley];
