@@ -1431,7 +1431,8 @@ public final class RoadShut {
         private int thing;
         private int lying;
         private int fullest;
-        private int load;
+        /** Never below 1: all loops go by loads. */
+        private int load = 1;
         private long fare;
 
         /**

@@ -32,6 +32,7 @@ public final class BrimTest {
         pathsAtTheirEdges();
         forkAtItsEdges();
         levelsAtTheirEdges();
+        everyLevel();
         halvesOfStores();
         drawsAtTheirEdges();
         lastSeeds();
@@ -414,6 +415,10 @@ public final class BrimTest {
                 + "path 0 1 days " + path + ";");
             due("till the other one's road shuts", x.fed(0, 1), due[path - 1]);
         }
+        // shut by half on each DAY, all but one PART: a DAY less one PART of 10 to the 12
+        RoadShut cut = Check.land("winter days 60 first 100 snow 100 clear 0;valley shut 50 room 0 wants;valley shut 0 room 0 wants;"
+            + "path 0 1 days 1;");
+        due("hundredths of days, cut", cut.fed(0, 1), 99);
     }
 
     private static void forkAtItsEdges() {
@@ -458,6 +463,28 @@ public final class BrimTest {
         due("nothing is asked, by a level", x.given(0, 1, 99999, 0), 0);
         due("one alone is given all", x.asks(0, 0, 99999, 1, 0), 1);
         due("one alone gains all", x.pays(0, 0, 99999, 1, 0), 27000);
+    }
+
+    /** Of all levels 0 .. 999 the greatest, and of all numbers to ask the least: none is left out. */
+    private static void everyLevel() {
+        String one = "valley shut 100 room 0 wants 9;";
+        for (int sacks = 0; sacks <= 2000; sacks += 400) {
+            RoadShut x = Check.land("winter days 60 first 100 snow 0 clear 0;thing price 0 harm 3 back 0;" + one + one);
+            Check.row(x, 0, 1, 999, 999);
+            for (int more = 0; more < 400 && sacks + more <= 2000; more++) {
+                due("level of " + (sacks + more), x.given(0, 1, sacks + more, 1), Math.min(999, (sacks + more) / 2));
+            }
+        }
+        // 531 are wanted: of fewer sacks all that the level gives, by asking just that
+        for (int sacks = 0; sacks <= 1200; sacks += 200) {
+            RoadShut x = Check.land("winter days 60 first 100 snow 0 clear 0;thing price 0 harm 3 back 0;" + one + one);
+            Check.row(x, 0, 1, 0, 999);
+            for (int more = 0; more < 200; more++) {
+                int level = Math.min(531, (sacks + more) / 2);
+                due("asks of " + (sacks + more), x.asks(0, 1, sacks + more, 0, 0), level);
+                due("pays of " + (sacks + more), x.pays(0, 1, sacks + more, 0, 0), 3000L * level);
+            }
+        }
     }
 
     /** Half of the sacks, cut, in the first store. */
