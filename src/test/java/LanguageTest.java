@@ -7,7 +7,9 @@ import java.nio.file.Path;
 import java.util.ArrayList;
 import java.util.Arrays;
 import java.util.List;
+import java.util.Map;
 import java.util.Set;
+import java.util.TreeMap;
 import java.util.TreeSet;
 import java.util.regex.Matcher;
 import java.util.regex.Pattern;
@@ -22,7 +24,10 @@ public final class LanguageTest {
         face();
         membersInside();
         words(code);
-        lengths(code);
+        Map<String, String> bodies = methods(code);
+        lengths(bodies);
+        depths(bodies);
+        onlyArrays(code);
         CHECK.finish();
     }
 
@@ -121,27 +126,71 @@ public final class LanguageTest {
         }
     }
 
-    private static void lengths(String code) {
+    /** By name what stands in each method; those of one name stand together, as if each called what any of them does. */
+    private static Map<String, String> methods(String code) {
+        Map<String, String> bodies = new TreeMap<>();
         String[] lines = code.split("\n");
-        int begin = -1;
-        String head = "";
-        int longest = 0;
         for (int i = 0; i < lines.length; i++) {
-            String line = lines[i];
-            boolean method = line.matches(" {4}(public|private)[^=;]*\\) \\{") || line.matches(" {8}\\w[^=;]*\\) \\{");
-            boolean control = line.trim().matches("(if|for|while|switch|else|\\}).*");
-            if (method && !control) {
-                begin = i;
-                head = line;
-            }
-            boolean closes = line.equals("    }") || line.equals("        }");
-            if (begin >= 0 && closes && line.indexOf('}') == head.indexOf(head.trim())) {
-                longest = Math.max(longest, i - begin + 1);
-                CHECK.holds(head.trim() + " is too long: " + (i - begin + 1), i - begin + 1 <= 60);
-                begin = -1;
+            Matcher head = Pattern.compile("^( {4}| {8})(?:[\\w\\[\\]]+ )+(\\w+)\\([^=;]*\\) \\{$").matcher(lines[i]);
+            if (head.matches() && !lines[i].trim().matches("(else|return|new) .*")) {
+                StringBuilder body = new StringBuilder();
+                int end = i + 1;
+                for (; end < lines.length && !lines[end].equals(head.group(1) + "}"); end++) {
+                    body.append(lines[end]).append('\n');
+                }
+                CHECK.holds(head.group(2) + " is too long: " + (end - i + 1), end - i + 1 <= 60);
+                bodies.merge(head.group(2), body.toString(), String::concat);
             }
         }
-        CHECK.holds("methods were seen", longest > 10);
+        return bodies;
+    }
+
+    private static void lengths(Map<String, String> bodies) {
+        for (Class<?> inside : RoadShut.class.getDeclaredClasses()) {
+            for (Method m : inside.getDeclaredMethods()) {
+                CHECK.holds(m.getName() + " was seen", bodies.containsKey(m.getName()));
+            }
+        }
+        for (Method m : RoadShut.class.getDeclaredMethods()) {
+            CHECK.holds(m.getName() + " was seen", bodies.containsKey(m.getName()));
+        }
+    }
+
+    /** Rules 8 and 11: who calls himself is counted once, none calls another one that calls him. */
+    private static void depths(Map<String, String> bodies) {
+        int deepest = 0;
+        for (String name : bodies.keySet()) {
+            deepest = Math.max(deepest, depth(bodies, name, new ArrayList<>()));
+        }
+        CHECK.holds("calls go eight deep at most, not " + deepest, deepest <= 8);
+        CHECK.holds("calls were seen", deepest > 3);
+    }
+
+    private static int depth(Map<String, String> bodies, String name, List<String> open) {
+        CHECK.holds(name + " is called again from " + open, !open.contains(name));
+        if (open.contains(name)) {
+            return 1000;
+        }
+        open.add(name);
+        int below = 0;
+        Matcher call = Pattern.compile("\\b(\\w+)\\(").matcher(bodies.get(name));
+        Set<String> called = new TreeSet<>();
+        while (call.find()) {
+            called.add(call.group(1));
+        }
+        for (String other : called) {
+            if (bodies.containsKey(other) && !other.equals(name)) {
+                below = Math.max(below, depth(bodies, other, open));
+            }
+        }
+        open.remove(name);
+        return below + 1;
+    }
+
+    /** Rules 3 and 12: arrays of one dimension alone; no list and no text is made that would count beside them. */
+    private static void onlyArrays(String code) {
+        CHECK.holds("arrays of one dimension", !code.contains("[][]"));
+        CHECK.holds("no list", !Pattern.compile("\\bList\\b|\\bArrayList\\b|\\bStringBuilder\\b").matcher(code).find());
     }
 
     private static String withoutTextsAndComments(String source) {
