@@ -159,9 +159,14 @@ public final class LanguageTest {
     /** Rules 8 and 11: who calls himself is counted once, none calls another one that calls him. */
     private static void depths(Map<String, String> bodies) {
         int deepest = 0;
+        Set<String> callingThemselves = new TreeSet<>();
         for (String name : bodies.keySet()) {
             deepest = Math.max(deepest, depth(bodies, name, new ArrayList<>()));
+            if (Pattern.compile("\\b" + name + "\\(").matcher(bodies.get(name)).find()) {
+                callingThemselves.add(name);
+            }
         }
+        CHECK.holds("only splitFrom, which has a guard, calls itself: " + callingThemselves, callingThemselves.equals(Set.of("splitFrom")));
         CHECK.holds("calls go eight deep at most, not " + deepest, deepest <= 8);
         CHECK.holds("calls were seen", deepest > 3);
     }
